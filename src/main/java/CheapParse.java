@@ -120,7 +120,7 @@ public final class CheapParse {
         } else {
             renewMatches();
         }
-        latest.begin(text, rules);
+        latest.begin(text, rules.least());
         int place = 0;
         for (int i = 0; i < TEXT_ROOM && place < text.size(); i++) {
             place += addStep(way, place);
@@ -392,12 +392,6 @@ public final class CheapParse {
             }
             return fit;
         }
-
-        void copyOf(Rules other) {
-            least = other.least;
-            most = other.most;
-            window = other.window;
-        }
     }
 
     /** The prices. */
@@ -491,7 +485,6 @@ public final class CheapParse {
                 same[distance] = 0;
             }
             for (int place = text.size() - 1; place >= 0; place--) {
-                lengthenSame(place);
                 longest[place] = 0;
                 nearest[place] = 0;
                 distances[place] = 0;
@@ -527,41 +520,37 @@ public final class CheapParse {
             return 0;
         }
 
-        private int farthest(int place) {
-            return Math.min(place, rules.window());
-        }
-
         private int lastOfClass(int place, int distanceClass) {
-            return Math.min((2 << distanceClass) - 1, farthest(place));
+            int farthest = Math.min(place, rules.window());
+            return Math.min((2 << distanceClass) - 1, farthest);
         }
 
         /** What is the same one place on goes on here, if this byte is the same too. */
-        private void lengthenSame(int place) {
+        private void noteClass(int place, int distanceClass) {
             int[] row = text.row;
             int value = row[place];
-            int last = farthest(place);
-            for (int distance = 1; distance <= last; distance++) {
-                same[distance] = row[place - distance] == value ? same[distance] + 1 : 0;
-            }
-        }
-
-        private void noteClass(int place, int distanceClass) {
             int least = rules.least();
-            int most = rules.most();
             int last = lastOfClass(place, distanceClass);
             int classLongest = 0;
             for (int distance = 1 << distanceClass; distance <= last; distance++) {
-                int length = Math.min(same[distance], most);
+                int length = row[place - distance] == value ? same[distance] + 1 : 0;
+                same[distance] = length;
                 if (length >= least) {
-                    distances[place]++;
-                    classLongest = Math.max(classLongest, length);
-                    if (length > longest[place]) {
-                        longest[place] = length;
-                        nearest[place] = distance;
-                    }
+                    classLongest = Math.max(classLongest, noteMatch(place, distance, length));
                 }
             }
             reach[place * DISTANCE_CLASSES + distanceClass] = classLongest;
+        }
+
+        /** Distances come from the nearest on, so that of equally long ones the nearest stays. */
+        private int noteMatch(int place, int distance, int sameBytes) {
+            int length = Math.min(sameBytes, rules.most());
+            distances[place]++;
+            if (length > longest[place]) {
+                longest[place] = length;
+                nearest[place] = distance;
+            }
+            return length;
         }
     }
 
@@ -664,13 +653,13 @@ public final class CheapParse {
         }
     }
 
-    /** The latest parse, with its text and the limits as they were then. */
+    /** The latest parse, with its text and the least length as they were then. */
     private static final class Steps {
         private final Bytes text;
-        private final Rules rules;
         private final int[] places;
         private final int[] lengths;
         private final int[] distances;
+        private int least;
         private int count;
         private int matchCount;
         private int wholePrice;
@@ -679,10 +668,10 @@ public final class CheapParse {
 
         Steps() {
             text = new Bytes(TEXT_ROOM);
-            rules = new Rules();
             places = new int[TEXT_ROOM];
             lengths = new int[TEXT_ROOM];
             distances = new int[TEXT_ROOM];
+            least = 0;
             count = 0;
             matchCount = 0;
             wholePrice = 0;
@@ -690,9 +679,9 @@ public final class CheapParse {
             made = false;
         }
 
-        void begin(Bytes newText, Rules newRules) {
+        void begin(Bytes newText, int newLeast) {
             text.copyOf(newText);
-            rules.copyOf(newRules);
+            least = newLeast;
             count = 0;
             matchCount = 0;
             wholePrice = 0;
@@ -794,7 +783,7 @@ public final class CheapParse {
         }
 
         private int lengthTold(int length) {
-            return length - rules.least() + 1;
+            return length - least + 1;
         }
 
         private int lengthBits(int length) {

@@ -4,7 +4,10 @@ import java.lang.reflect.Method;
 import java.lang.reflect.Modifier;
 import java.util.TreeSet;
 
-/** The class has the document's face, and no other member that can be seen from outside. */
+/**
+ * The class has the document's face, no other member that can be seen from outside, and the form
+ * that LANGUAGE.md asks for, as far as it can be seen from here.
+ */
 public final class FaceTest {
     private FaceTest() {
     }
@@ -43,11 +46,35 @@ public final class FaceTest {
         Due.due("the face", found.equals(due) ? 1 : 0, 1);
         Due.due("public and final", c.getModifiers(), Modifier.PUBLIC | Modifier.FINAL);
         Due.due("NONE", CheapParse.NONE, -1);
+        TreeSet<String> publicNames = new TreeSet<>();
+        for (String member : due) {
+            publicNames.add(member.replaceAll("[(].*", ""));
+        }
+        Due.due("at most twelve classes", c.getDeclaredClasses().length < 12 ? 1 : 0, 1);
+        keepsForm(c, publicNames);
         for (Class<?> inside : c.getDeclaredClasses()) {
             Due.due(inside.getName() + " is static",
                 Modifier.isStatic(inside.getModifiers()) ? 1 : 0, 1);
+            keepsForm(inside, publicNames);
         }
         Due.end();
+    }
+
+    private static void keepsForm(Class<?> c, TreeSet<String> publicNames) {
+        int fields = 0;
+        for (Field f : c.getDeclaredFields()) {
+            boolean isStatic = Modifier.isStatic(f.getModifiers());
+            fields += isStatic ? 0 : 1;
+            Due.due(f.getName() + " is final if static",
+                !isStatic || Modifier.isFinal(f.getModifiers()) ? 1 : 0, 1);
+        }
+        Due.due(c.getName() + " has at most twenty fields", fields <= 20 ? 1 : 0, 1);
+        for (Method m : c.getDeclaredMethods()) {
+            Due.due(m + " takes at most seven", m.getParameterCount() <= 7 ? 1 : 0, 1);
+            boolean isPublic = Modifier.isPublic(m.getModifiers());
+            Due.due(m + " has a name of its own",
+                isPublic || !publicNames.contains(m.getName()) ? 1 : 0, 1);
+        }
     }
 
     private static String parameters(Class<?>[] types) {

@@ -186,6 +186,11 @@ public final class Promise07ParseTest {
             Due.dueStep(x, 2, 256, 244, 1, -1);
         }
         x = new CheapParse();
+        x.fill(0, 499);
+        x.fill(1, 1);
+        Due.due("the last byte alone", x.parse(2), 10);
+        Due.dueStep(x, 9, 499, 1, 0, 1);
+        x = new CheapParse();
         for (int k = 0; k < 250; k++) {
             x.type(k << 8 | k * 7 & 255, 2);
         }

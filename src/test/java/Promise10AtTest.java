@@ -34,6 +34,9 @@ public final class Promise10AtTest {
         dueAt(x, 9, 3, 4, 1);
         x.limits(4, 64, 500);
         dueAt(x, 9, 4, 9, 1);
+        dueAt(x, 5, 0, 0, 0);
+        x.limits(5, 64, 500);
+        dueAt(x, 9, 0, 0, 0);
     }
 
     private static void noneSuch() {

@@ -124,7 +124,9 @@ public final class Promise14ReadTest {
         // a length over most before a distance before the beginning, or the bytes' end
         bad(size(100) + "1 00000 111111 0001 1", 3);
         bad(size(100) + A + A + A + "1 000000 1111111", 3);
-        bad(size(500) + A + A + A + A + A + "1 000000000", 3);
+        // the bytes end just behind eight 0, and just behind nine
+        bad(size(500) + A + A + A + A + A + A + A + "1 00000000", 1);
+        bad(size(500) + A + A + A + A + A + A + "1 000000000", 3);
         // the bytes end among the distance's bits, before it is told whole
         bad(size(100) + A + B + A + B + "1 1 1111 11", 1);
         bad(size(100) + A + B + A + B + "1 1 1111 1111111111", 1);
