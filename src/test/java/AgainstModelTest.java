@@ -1,9 +1,10 @@
 /** Runs of mixed calls on new objects, each answered by the model too. */
 public final class AgainstModelTest {
     private static final int RUNS = 600;
-    private static final int CALLS = 512;
+    /** More than any of the ways of going on asks at once. */
+    private static final int BURST = 150;
 
-    private final CheapParse x = new CheapParse();
+    private final Counted x = new Counted();
     private final Model model = new Model();
     private final int run;
     private long state;
@@ -37,7 +38,7 @@ public final class AgainstModelTest {
         int roomy = any(25) == 0 ? 160 : 10 + any(60);
         boolean nearPrices = any(2) == 0;
         someLimits();
-        while (calls < CALLS - 40) {
+        while (calls < Counted.MOST_CALLS - BURST) {
             switch (any(9)) {
                 case 0:
                 case 1:
@@ -64,6 +65,11 @@ public final class AgainstModelTest {
                     break;
             }
         }
+        // the last call that is promised is the 512th
+        while (calls < Counted.MOST_CALLS) {
+            oddCall();
+        }
+        Due.due("the calls of a run", x.calls(), Counted.MOST_CALLS);
     }
 
     private void someText(int letters, int roomy) {

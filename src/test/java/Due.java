@@ -2,6 +2,7 @@
 final class Due {
     private static int wrong = 0;
     private static int asked = 0;
+    private static String sentence = "";
 
     private Due() {
     }
@@ -10,8 +11,13 @@ final class Due {
         asked++;
         if (got != want) {
             wrong++;
-            System.out.println(call + " answered " + got + ", due is " + want);
+            System.out.println(sentence + call + " answered " + got + ", due is " + want);
         }
+    }
+
+    /** The document's words that the next answers are asked for, told with the wrong ones. */
+    static void sentence(String words) {
+        sentence = "\"" + words + "\": ";
     }
 
     static void end() {
@@ -27,13 +33,13 @@ final class Due {
     }
 
     /** A new object with this text, a character a byte. */
-    static CheapParse withText(String text) {
-        CheapParse x = new CheapParse();
+    static Counted withText(String text) {
+        Counted x = new Counted();
         typeAll(x, text);
         return x;
     }
 
-    static void typeAll(CheapParse x, String text) {
+    static void typeAll(Counted x, String text) {
         for (int k = 0; k < text.length(); k += 8) {
             String part = text.substring(k, Math.min(text.length(), k + 8));
             due("type of " + part, x.type(packed(part), part.length()), k + part.length());
@@ -50,14 +56,14 @@ final class Due {
     }
 
     /** The step as place, length, distance and byte. */
-    static void dueStep(CheapParse x, int i, int place, int length, int distance, int value) {
+    static void dueStep(Counted x, int i, int place, int length, int distance, int value) {
         due("step(" + i + ", 0)", x.step(i, 0), place);
         due("step(" + i + ", 1)", x.step(i, 1), length);
         due("step(" + i + ", 2)", x.step(i, 2), distance);
         due("step(" + i + ", 3)", x.step(i, 3), value);
     }
 
-    static void dueTold(CheapParse x, int steps, int matches, int price, int bits, int bytes) {
+    static void dueTold(Counted x, int steps, int matches, int price, int bits, int bytes) {
         due("told(0)", x.told(0), steps);
         due("told(1)", x.told(1), matches);
         due("told(2)", x.told(2), price);
@@ -66,7 +72,7 @@ final class Due {
     }
 
     /** The written bytes, told as bits with spaces anywhere between them. */
-    static void dueWritten(CheapParse x, String bits) {
+    static void dueWritten(Counted x, String bits) {
         String all = wholeBytes(bits);
         due("write()", x.write(), all.length() / 8);
         for (int k = 0; k < all.length() / 8; k++) {
@@ -77,19 +83,19 @@ final class Due {
     }
 
     /** Loads bits, told with spaces anywhere between them; the last byte is filled with 0. */
-    static void loadBits(CheapParse x, String bits) {
+    static void loadBits(Counted x, String bits) {
         String all = wholeBytes(bits);
         for (int k = 0; k < all.length(); k += 8) {
             due("load of a byte", x.load(Long.parseLong(all.substring(k, k + 8), 2), 1), k / 8 + 1);
         }
     }
 
-    static void dueRead(CheapParse x, String bits, int fault) {
+    static void dueRead(Counted x, String bits, int fault) {
         loadBits(x, bits);
         due("read of " + bits, x.read(), fault);
     }
 
-    static void dueTaken(CheapParse x, String text) {
+    static void dueTaken(Counted x, String text) {
         due("taken(NONE)", x.taken(-1), text.length());
         for (int k = 0; k < text.length(); k++) {
             due("taken(" + k + ")", x.taken(k), text.charAt(k) & 255);

@@ -4,7 +4,7 @@ public final class Promise01NewObjectTest {
     }
 
     public static void main(String[] args) {
-        CheapParse x = new CheapParse();
+        Counted x = new Counted();
         Due.dueTold(x, 0, 0, 0, 0, 0);
         Due.due("told(5)", x.told(5), -1);
         Due.dueStep(x, 0, -1, -1, -1, -1);
@@ -26,7 +26,7 @@ public final class Promise01NewObjectTest {
     }
 
     private static void firstLimits() {
-        CheapParse x = Due.withText("ab");
+        Counted x = Due.withText("ab");
         Due.due("fill", x.fill('c', 498), 500);
         Due.due("least 3: at(497, 0)", x.at(497, 0), 3);
         Due.due("least 3: at(498, 0)", x.at(498, 0), 0);
@@ -38,19 +38,19 @@ public final class Promise01NewObjectTest {
     }
 
     private static void firstPrices() {
-        CheapParse x = Due.withText("abcabc");
+        Counted x = Due.withText("abcabc");
         x.parse(1);
         Due.due("a match costs 24", x.told(2), 3 * 8 + 24);
         for (int group = 0; group < 8; group++) {
-            x = new CheapParse();
+            x = new Counted();
             x.fill(32 * group, 1);
             Due.due("a byte alone costs 8", x.at(0, 3), 8);
         }
     }
 
     private static void twoObjects() {
-        CheapParse x = Due.withText("aaaa");
-        CheapParse y = new CheapParse();
+        Counted x = Due.withText("aaaa");
+        Counted y = new Counted();
         x.price(0, 3, 9);
         x.limits(2, 2, 1);
         x.parse(0);

@@ -4,7 +4,7 @@ public final class Promise02TypeTest {
     }
 
     public static void main(String[] args) {
-        CheapParse x = new CheapParse();
+        Counted x = new Counted();
         Due.due("type 8", x.type(0x0102030405060708L, 8), 8);
         Due.due("type 3 of 8", x.type(0x1112131415161718L, 3), 11);
         Due.due("type 1 of -1", x.type(-1L, 1), 12);
@@ -27,7 +27,7 @@ public final class Promise02TypeTest {
     }
 
     private static void atTheEdge() {
-        CheapParse x = new CheapParse();
+        Counted x = new Counted();
         for (int k = 1; k <= 62; k++) {
             Due.due("type 8", x.type(k, 8), 8 * k);
         }

@@ -4,7 +4,7 @@ public final class Promise03FillTest {
     }
 
     public static void main(String[] args) {
-        CheapParse x = new CheapParse();
+        Counted x = new Counted();
         Due.due("fill 1", x.fill(7, 1), 1);
         Due.due("fill 2", x.fill(255, 2), 3);
         Due.due("fill by the lowest byte", x.fill(0x1234, 1), 4);
@@ -25,8 +25,8 @@ public final class Promise03FillTest {
         Due.due("told(4)", x.told(4), 500);
         Due.due("at(5, 0)", x.at(5, 0), 0);
         Due.due("at(6, 0)", x.at(6, 0), 64);
-        Due.due("fill 500", new CheapParse().fill(0, 500), 500);
-        Due.due("fill 501", new CheapParse().fill(0, 501), -1);
+        Due.due("fill 500", new Counted().fill(0, 500), 500);
+        Due.due("fill 501", new Counted().fill(0, 501), -1);
         Due.end();
     }
 }

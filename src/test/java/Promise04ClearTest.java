@@ -4,7 +4,7 @@ public final class Promise04ClearTest {
     }
 
     public static void main(String[] args) {
-        CheapParse x = Due.withText("abcabcabd");
+        Counted x = Due.withText("abcabcabd");
         x.limits(2, 5, 400);
         x.price(0, 3, 20);
         Due.due("load", x.load(0x000161L, 3), 3);

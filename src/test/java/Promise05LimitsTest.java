@@ -13,7 +13,7 @@ public final class Promise05LimitsTest {
     }
 
     private static void taken() {
-        CheapParse x = new CheapParse();
+        Counted x = new Counted();
         int[][] fine = {{2, 2, 1}, {16, 16, 500}, {16, 255, 1}, {2, 255, 500}, {3, 64, 500}};
         for (int[] l : fine) {
             Due.due("limits " + l[0] + " " + l[1] + " " + l[2], x.limits(l[0], l[1], l[2]), 1);
@@ -21,7 +21,7 @@ public final class Promise05LimitsTest {
     }
 
     private static void refused() {
-        CheapParse x = new CheapParse();
+        Counted x = new Counted();
         x.fill('a', 300);
         x.limits(4, 20, 9);
         int[][] bad = {{1, 20, 9}, {0, 0, 9}, {-3, 20, 9}, {17, 20, 9}, {4, 3, 9}, {16, 15, 9},
@@ -37,7 +37,7 @@ public final class Promise05LimitsTest {
     }
 
     private static void least() {
-        CheapParse x = Due.withText("abcdeabcd");
+        Counted x = Due.withText("abcdeabcd");
         x.limits(4, 64, 500);
         Due.due("of just the least length", x.at(5, 0), 4);
         x.limits(5, 64, 500);
@@ -49,7 +49,7 @@ public final class Promise05LimitsTest {
     }
 
     private static void most() {
-        CheapParse x = Due.withText("abcdefabcdef");
+        Counted x = Due.withText("abcdefabcdef");
         x.limits(2, 6, 500);
         Due.due("most 6", x.at(6, 0), 6);
         x.limits(2, 5, 500);
@@ -60,7 +60,7 @@ public final class Promise05LimitsTest {
     }
 
     private static void window() {
-        CheapParse x = Due.withText("abc1abc");
+        Counted x = Due.withText("abc1abc");
         x.limits(3, 64, 4);
         Due.due("distance 4", x.at(4, 0), 3);
         x.limits(3, 64, 3);

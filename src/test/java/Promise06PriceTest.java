@@ -11,7 +11,7 @@ public final class Promise06PriceTest {
     }
 
     private static void refused() {
-        CheapParse x = Due.withText("abcabcabcabc");
+        Counted x = Due.withText("abcabcabcabc");
         int[] count = {8, 1, 8, 9};
         for (int what = 0; what < 4; what++) {
             for (int k = 0; k < count[what]; k++) {
@@ -35,7 +35,7 @@ public final class Promise06PriceTest {
     private static void ofBytes() {
         for (int group = 0; group < 8; group++) {
             for (int other = 0; other < 8; other++) {
-                CheapParse x = new CheapParse();
+                Counted x = new Counted();
                 x.fill(32 * group, 1);
                 x.fill(32 * group + 31, 1);
                 x.price(0, other, 100 + other);
@@ -63,15 +63,7 @@ public final class Promise06PriceTest {
     }
 
     private static void matchOf(int length, int distance, int what, int k) {
-        StringBuilder text = new StringBuilder();
-        for (int i = 0; i < distance; i++) {
-            // no two bytes follow each other twice, so that there is no other match
-            text.append((char) (i < 256 ? i : 7 * i & 255));
-        }
-        for (int i = 0; i < length; i++) {
-            text.append(text.charAt(i));
-        }
-        CheapParse x = Due.withText(text.toString());
+        Counted x = Due.withText(Texts.oneMatch(length, distance));
         x.limits(2, 255, distance);
         for (int group = 0; group < 8; group++) {
             x.price(0, group, 1000);

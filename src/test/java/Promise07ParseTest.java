@@ -21,7 +21,7 @@ public final class Promise07ParseTest {
     }
 
     private static void noSuchWay() {
-        CheapParse x = Due.withText("abab");
+        Counted x = Due.withText("abab");
         for (int way : new int[] {-1, 3, 4, Integer.MIN_VALUE, Integer.MAX_VALUE}) {
             Due.due("parse(" + way + ")", x.parse(way), -1);
             Due.dueTold(x, 0, 0, 0, 0, 0);
@@ -38,7 +38,7 @@ public final class Promise07ParseTest {
 
     private static void emptyText() {
         for (int way = 0; way < 3; way++) {
-            CheapParse x = new CheapParse();
+            Counted x = new Counted();
             Due.due("parse(" + way + ")", x.parse(way), 0);
             Due.dueTold(x, 0, 0, 0, 16, 0);
             Due.dueWritten(x, "00000000 00000000");
@@ -47,7 +47,7 @@ public final class Promise07ParseTest {
 
     /** At 11 greedy takes "bcd", lazy and cheapest wait for "cdefgh". */
     private static void threeWays() {
-        CheapParse x = Due.withText("bcd-cdefgh-bcdefgh");
+        Counted x = Due.withText("bcd-cdefgh-bcdefgh");
         Due.due("greedy", x.parse(1), 13);
         Due.dueStep(x, 10, 10, 1, 0, '-');
         Due.dueStep(x, 11, 11, 3, 11, -1);
@@ -61,7 +61,7 @@ public final class Promise07ParseTest {
     }
 
     private static void longestOfEquallyCheap() {
-        CheapParse x = Due.withText("abcabc");
+        Counted x = Due.withText("abcabc");
         Due.due("a match as cheap as three bytes", x.parse(0), 4);
         Due.dueStep(x, 3, 3, 3, 3, -1);
         x.price(1, 0, 9);
@@ -76,7 +76,7 @@ public final class Promise07ParseTest {
     }
 
     private static void nearestOfEquallyCheap() {
-        CheapParse x = Due.withText("wxyz1wxyz23wxyz");
+        Counted x = Due.withText("wxyz1wxyz23wxyz");
         x.price(0, 3, 100);
         Due.due("parse(0)", x.parse(0), 9);
         Due.dueStep(x, 5, 5, 4, 5, -1);
@@ -95,7 +95,7 @@ public final class Promise07ParseTest {
     }
 
     private static void shorterMatchIsCheaper() {
-        CheapParse x = Due.withText("abcdefgh-abcdefgh");
+        Counted x = Due.withText("abcdefgh-abcdefgh");
         x.price(2, 3, 1000);
         Due.due("parse(0)", x.parse(0), 11);
         Due.dueStep(x, 9, 9, 7, 9, -1);
@@ -108,7 +108,7 @@ public final class Promise07ParseTest {
     }
 
     private static void lazyWaits() {
-        CheapParse x = Due.withText("abc1bcde2cdefg3abcdefg");
+        Counted x = Due.withText("abc1bcde2cdefg3abcdefg");
         // at 15 "abc", at 16 "bcde", at 17 "cdefg": it waits twice
         x.parse(2);
         int last = x.told(0) - 1;
@@ -118,7 +118,7 @@ public final class Promise07ParseTest {
     }
 
     private static void lazyTakesEquallyLong() {
-        CheapParse x = Due.withText("abc1bcd2abcd");
+        Counted x = Due.withText("abc1bcd2abcd");
         x.parse(2);
         int last = x.told(0) - 1;
         Due.dueStep(x, last - 1, 8, 3, 8, -1);
@@ -126,7 +126,7 @@ public final class Promise07ParseTest {
     }
 
     private static void lazyAtTheEnd() {
-        CheapParse x = Due.withText("abcabc");
+        Counted x = Due.withText("abcabc");
         Due.due("parse(2)", x.parse(2), 4);
         Due.dueStep(x, 3, 3, 3, 3, -1);
         x = Due.withText("a");
@@ -143,7 +143,7 @@ public final class Promise07ParseTest {
     }
 
     private static void greedyTakesNearest() {
-        CheapParse x = Due.withText("abcd1abc2abce");
+        Counted x = Due.withText("abcd1abc2abce");
         x.parse(1);
         Due.dueStep(x, 7, 9, 3, 4, -1);
         x = Due.withText("abcd1abc2abcd");
@@ -153,14 +153,14 @@ public final class Promise07ParseTest {
 
     private static void matchIntoItself() {
         for (int way = 0; way < 3; way++) {
-            CheapParse x = Due.withText("abababababab");
+            Counted x = Due.withText("abababababab");
             Due.due("parse(" + way + ")", x.parse(way), 3);
             Due.dueStep(x, 2, 2, 10, 2, -1);
         }
     }
 
     private static void parsesWhatIsThereNow() {
-        CheapParse x = Due.withText("abcd");
+        Counted x = Due.withText("abcd");
         Due.due("parse(0)", x.parse(0), 4);
         x.type(Due.packed("abcd"), 4);
         Due.due("after type", x.parse(0), 5);
@@ -177,7 +177,7 @@ public final class Promise07ParseTest {
     }
 
     private static void wholeText() {
-        CheapParse x = new CheapParse();
+        Counted x = new Counted();
         x.fill(0, 500);
         x.limits(2, 255, 500);
         for (int way = 0; way < 3; way++) {
@@ -185,12 +185,12 @@ public final class Promise07ParseTest {
             Due.dueStep(x, 1, 1, 255, 1, -1);
             Due.dueStep(x, 2, 256, 244, 1, -1);
         }
-        x = new CheapParse();
+        x = new Counted();
         x.fill(0, 499);
         x.fill(1, 1);
         Due.due("the last byte alone", x.parse(2), 10);
         Due.dueStep(x, 9, 499, 1, 0, 1);
-        x = new CheapParse();
+        x = new Counted();
         for (int k = 0; k < 250; k++) {
             x.type(k << 8 | k * 7 & 255, 2);
         }

@@ -4,7 +4,7 @@ public final class Promise08StepTest {
     }
 
     public static void main(String[] args) {
-        CheapParse x = new CheapParse();
+        Counted x = new Counted();
         x.type(0xff00L, 2);
         x.type(0xff00ff00L, 4);
         x.type(0x80L, 1);
@@ -26,7 +26,7 @@ public final class Promise08StepTest {
         Due.end();
     }
 
-    private static void ofTheLatestParse(CheapParse x) {
+    private static void ofTheLatestParse(Counted x) {
         x.clear();
         x.fill(9, 3);
         Due.dueStep(x, 2, 2, 4, 2, -1);

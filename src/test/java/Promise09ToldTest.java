@@ -4,7 +4,7 @@ public final class Promise09ToldTest {
     }
 
     public static void main(String[] args) {
-        CheapParse x = Due.withText("abcdabcd!");
+        Counted x = Due.withText("abcdabcd!");
         Due.dueTold(x, 0, 0, 0, 0, 0);
         noOthers(x);
         x.price(0, 1, 5);
@@ -32,7 +32,7 @@ public final class Promise09ToldTest {
         Due.end();
     }
 
-    private static void noOthers(CheapParse x) {
+    private static void noOthers(Counted x) {
         for (int what : new int[] {-1, 5, 6, Integer.MIN_VALUE, Integer.MAX_VALUE}) {
             Due.due("told(" + what + ")", x.told(what), -1);
         }
@@ -41,7 +41,7 @@ public final class Promise09ToldTest {
     private static void bitsOfLengths() {
         for (int least = 2; least <= 16; least++) {
             for (int length = least; length <= 255; length += length < 40 ? 1 : 43) {
-                CheapParse x = new CheapParse();
+                Counted x = new Counted();
                 x.fill('x', length + 1);
                 x.limits(least, 255, 1);
                 Due.due("parse(1)", x.parse(1), 2);
@@ -52,13 +52,8 @@ public final class Promise09ToldTest {
     }
 
     private static void bitsOfDistances() {
-        for (int distance = 3; distance <= 250; distance++) {
-            StringBuilder text = new StringBuilder();
-            for (int k = 0; k < distance; k++) {
-                text.append((char) k);
-            }
-            text.append(text, 0, 3);
-            CheapParse x = Due.withText(text.toString());
+        for (int distance = 3; distance <= 497; distance++) {
+            Counted x = Due.withText(Texts.oneMatch(3, distance));
             Due.due("parse(1)", x.parse(1), distance + 1);
             int below = Integer.toBinaryString(distance).length() - 1;
             Due.due("bits", x.told(3), 16 + 9 * distance + 1 + 1 + 4 + below);
@@ -66,7 +61,7 @@ public final class Promise09ToldTest {
     }
 
     private static void dearest() {
-        CheapParse x = new CheapParse();
+        Counted x = new Counted();
         x.fill(200, 500);
         x.price(0, 6, 1000);
         x.price(1, 0, 1000);

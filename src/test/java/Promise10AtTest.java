@@ -12,14 +12,14 @@ public final class Promise10AtTest {
         Due.end();
     }
 
-    private static void dueAt(CheapParse x, int place, int longest, int nearest, int distances) {
+    private static void dueAt(Counted x, int place, int longest, int nearest, int distances) {
         Due.due("at(" + place + ", 0)", x.at(place, 0), longest);
         Due.due("at(" + place + ", 1)", x.at(place, 1), nearest);
         Due.due("at(" + place + ", 2)", x.at(place, 2), distances);
     }
 
     private static void ordinary() {
-        CheapParse x = Due.withText("abcd1abc2abcde");
+        Counted x = Due.withText("abcd1abc2abcde");
         dueAt(x, 0, 0, 0, 0);
         dueAt(x, 4, 0, 0, 0);
         dueAt(x, 5, 3, 5, 1);
@@ -40,7 +40,7 @@ public final class Promise10AtTest {
     }
 
     private static void noneSuch() {
-        CheapParse x = Due.withText("aaaaaa");
+        Counted x = Due.withText("aaaaaa");
         for (int what = 0; what < 4; what++) {
             Due.due("at(-1)", x.at(-1, what), -1);
             Due.due("at(7)", x.at(7, what), -1);
@@ -56,7 +56,7 @@ public final class Promise10AtTest {
     }
 
     private static void ofTheTextAsItIs() {
-        CheapParse x = Due.withText("abcab");
+        Counted x = Due.withText("abcab");
         dueAt(x, 3, 0, 0, 0);
         x.parse(0);
         x.type('c', 1);
@@ -70,7 +70,7 @@ public final class Promise10AtTest {
     }
 
     private static void withinTheText() {
-        CheapParse x = new CheapParse();
+        Counted x = new Counted();
         x.fill('a', 10);
         for (int place = 1; place < 10; place++) {
             int length = 10 - place;
@@ -82,7 +82,7 @@ public final class Promise10AtTest {
     }
 
     private static void leastPrices() {
-        CheapParse x = Due.withText("abcdeabcde");
+        Counted x = Due.withText("abcdeabcde");
         int[] want = {64, 56, 48, 40, 32, 24, 24, 24, 16, 8, 0};
         for (int place = 0; place <= 10; place++) {
             Due.due("at(" + place + ", 3)", x.at(place, 3), want[place]);

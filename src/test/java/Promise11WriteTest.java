@@ -4,7 +4,7 @@ public final class Promise11WriteTest {
     }
 
     public static void main(String[] args) {
-        CheapParse x = Due.withText("abcabcabca");
+        Counted x = Due.withText("abcabcabca");
         Due.due("write() without a parse", x.write(), 0);
         Due.due("written(0)", x.written(0), -1);
         x.parse(0);
@@ -20,7 +20,7 @@ public final class Promise11WriteTest {
         Due.end();
     }
 
-    private static void byLimitsAsTheyWereThen(CheapParse x, String bits) {
+    private static void byLimitsAsTheyWereThen(Counted x, String bits) {
         x.limits(7, 7, 500);
         x.clear();
         Due.dueWritten(x, bits);
@@ -46,7 +46,7 @@ public final class Promise11WriteTest {
     }
 
     private static void lengthWritten(int least, int length, String told) {
-        CheapParse x = new CheapParse();
+        Counted x = new Counted();
         x.fill(0x81, length + 1);
         x.limits(least, 255, 500);
         x.parse(1);
@@ -66,15 +66,11 @@ public final class Promise11WriteTest {
     }
 
     private static void distanceWritten(int distance, String told) {
-        StringBuilder text = new StringBuilder();
         StringBuilder bits = new StringBuilder(Due.bitsOf(distance + 3, 16));
-        for (int k = 0; k < distance; k++) {
-            char value = (char) (k < 256 ? k : 7 * k & 255);
-            text.append(value);
+        for (char value : Texts.apart(distance).toCharArray()) {
             bits.append(Due.alone(value));
         }
-        text.append(text, 0, 3);
-        CheapParse x = Due.withText(text.toString());
+        Counted x = Due.withText(Texts.oneMatch(3, distance));
         x.parse(2);
         // the bytes are looked at by the last ones alone, to stay within 512 calls
         String whole = bits.append("1 1").append(told).toString().replace(" ", "");
@@ -88,7 +84,7 @@ public final class Promise11WriteTest {
     }
 
     private static void longest() {
-        CheapParse x = new CheapParse();
+        Counted x = new Counted();
         x.fill(255, 500);
         x.limits(16, 16, 1);
         x.price(1, 0, 1000);
@@ -103,7 +99,7 @@ public final class Promise11WriteTest {
     }
 
     private static void shorterAfterLonger() {
-        CheapParse x = new CheapParse();
+        Counted x = new Counted();
         x.fill(255, 20);
         x.price(1, 0, 1000);
         x.parse(0);

@@ -4,7 +4,7 @@ public final class Promise12WrittenTest {
     }
 
     public static void main(String[] args) {
-        CheapParse x = new CheapParse();
+        Counted x = new Counted();
         dueNone(x, 0);
         x.write();
         dueNone(x, 0);
@@ -27,14 +27,14 @@ public final class Promise12WrittenTest {
         Due.end();
     }
 
-    private static void dueBytes(CheapParse x, int[] want) {
+    private static void dueBytes(Counted x, int[] want) {
         for (int k = 0; k < want.length; k++) {
             Due.due("written(" + k + ")", x.written(k), want[k]);
         }
         dueNone(x, want.length);
     }
 
-    private static void dueNone(CheapParse x, int size) {
+    private static void dueNone(Counted x, int size) {
         for (int k : new int[] {-1, size, size + 1, 564, 565, 700,
             Integer.MIN_VALUE, Integer.MAX_VALUE}) {
             Due.due("written(" + k + ")", x.written(k), -1);

@@ -4,7 +4,7 @@ public final class Promise13LoadTest {
     }
 
     public static void main(String[] args) {
-        CheapParse x = new CheapParse();
+        Counted x = new Counted();
         Due.due("n 0", x.load(1L, 0), -1);
         Due.due("n -1", x.load(1L, -1), -1);
         Due.due("n 9", x.load(1L, 9), -1);
@@ -25,7 +25,7 @@ public final class Promise13LoadTest {
     }
 
     private static void atTheEdge() {
-        CheapParse x = new CheapParse();
+        Counted x = new Counted();
         for (int k = 1; k <= 87; k++) {
             Due.due("load 8", x.load(0L, 8), 8 * k);
         }
@@ -40,7 +40,7 @@ public final class Promise13LoadTest {
     }
 
     private static void aWholeText() {
-        CheapParse x = new CheapParse();
+        Counted x = new Counted();
         x.load(500L, 2);
         // 500 times 0 and 11111111 are 4500 bits
         StringBuilder bits = new StringBuilder();

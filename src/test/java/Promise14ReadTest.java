@@ -25,13 +25,13 @@ public final class Promise14ReadTest {
     }
 
     private static void good(String bits, String text) {
-        CheapParse x = new CheapParse();
+        Counted x = new Counted();
         Due.dueRead(x, bits, 0);
         Due.dueTaken(x, text);
     }
 
     private static void bad(String bits, int fault) {
-        CheapParse x = new CheapParse();
+        Counted x = new Counted();
         Due.dueRead(x, bits, fault);
         Due.due("taken(NONE)", x.taken(-1), -1);
         Due.due("the loaded bytes are none", x.load(0L, 1), 1);
@@ -139,7 +139,7 @@ public final class Promise14ReadTest {
     }
 
     private static void byTheLimitsNow() {
-        CheapParse x = new CheapParse();
+        Counted x = new Counted();
         x.limits(2, 4, 2);
         Due.dueRead(x, size(3) + A + "1 1 0000", 0);
         Due.dueTaken(x, "aaa");
@@ -164,7 +164,7 @@ public final class Promise14ReadTest {
     }
 
     private static void whatStays() {
-        CheapParse x = Due.withText("xyz");
+        Counted x = Due.withText("xyz");
         x.parse(0);
         Due.dueRead(x, size(2) + A + B, 0);
         Due.dueTaken(x, "ab");
@@ -186,7 +186,7 @@ public final class Promise14ReadTest {
     private static void writtenAndReadAgain() {
         String text = "how much wood would a woodchuck chuck if a woodchuck could chuck wood";
         for (int way = 0; way < 3; way++) {
-            CheapParse x = Due.withText(text);
+            Counted x = Due.withText(text);
             x.limits(2 + way, 20 - way, 40 + way);
             x.parse(way);
             int size = x.write();

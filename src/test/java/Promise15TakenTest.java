@@ -4,7 +4,7 @@ public final class Promise15TakenTest {
     }
 
     public static void main(String[] args) {
-        CheapParse x = Due.withText("abc");
+        Counted x = Due.withText("abc");
         dueNone(x, 0);
         Due.due("taken(NONE)", x.taken(-1), -1);
         x.parse(0);
@@ -33,7 +33,7 @@ public final class Promise15TakenTest {
         Due.end();
     }
 
-    private static void dueNone(CheapParse x, int size) {
+    private static void dueNone(Counted x, int size) {
         for (int k : new int[] {-2, size, size + 1, 499, 500, 501,
             Integer.MIN_VALUE, Integer.MAX_VALUE}) {
             Due.due("taken(" + k + ")", x.taken(k), -1);
