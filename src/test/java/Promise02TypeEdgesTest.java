@@ -12,6 +12,7 @@ public final class Promise02TypeEdgesTest {
         badN();
         wouldBeMoreThan500();
         refusedThenTaken();
+        seenAtOnce();
         Due.end();
     }
 
@@ -95,5 +96,16 @@ public final class Promise02TypeEdgesTest {
         }
         Due.due("clear()", x.clear(), 500);
         Due.due("type", x.type(ALL, 8), 8);
+    }
+
+    private static void seenAtOnce() {
+        Due.sentence("The text gets the n lowest bytes of a number more");
+        Counted x = new Counted();
+        for (int size = 1; size <= 9; size++) {
+            Due.due("type", x.type('a', 1), size);
+            Due.due("at(0, 3)", x.at(0, 3), size < 4 ? 8 * size : 32);
+            Due.due("at(1, 0)", x.at(1, 0), size < 2 ? -1 : size < 4 ? 0 : size - 1);
+            Due.due("parse(1)", x.parse(1), size < 4 ? size : 2);
+        }
     }
 }

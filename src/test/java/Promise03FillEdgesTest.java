@@ -10,6 +10,7 @@ public final class Promise03FillEdgesTest {
         badN();
         wouldBeMoreThan500();
         refusedThenTaken();
+        seenAtOnce();
         Due.end();
     }
 
@@ -84,5 +85,16 @@ public final class Promise03FillEdgesTest {
         Due.due("parse(0)", x.parse(0), 3);
         Due.dueStep(x, 1, 1, 1, 0, 'a');
         Due.dueStep(x, 2, 2, 1, 0, 'd');
+    }
+
+    private static void seenAtOnce() {
+        Due.sentence("n times a byte more");
+        Counted x = new Counted();
+        for (int size = 1; size <= 9; size++) {
+            Due.due("fill", x.fill('a', 1), size);
+            Due.due("at(0, 3)", x.at(0, 3), size < 4 ? 8 * size : 32);
+            Due.due("at(1, 0)", x.at(1, 0), size < 2 ? -1 : size < 4 ? 0 : size - 1);
+            Due.due("parse(1)", x.parse(1), size < 4 ? size : 2);
+        }
     }
 }
